@@ -534,7 +534,10 @@ public final class ShaftWinder {
         }
 
         int greatestSpeed(int place, int way) {
-            int limit = limitAt(place);
+            if (!has(place)) {
+                return 0;
+            }
+            int limit = limits[place];
             for (int speed = 1; speed <= top; speed++) {
                 int end = place + way * speed;
                 if (!has(end)) {

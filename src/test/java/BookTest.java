@@ -44,7 +44,13 @@ public final class BookTest {
         }
         x.broken(59, 1);
         Due.is("22: the last", x.worstAt(1), 59);
-        Due.is("22: the last two", x.worstAt(2), 58);
+        x.broken(1, 6);
+        Due.is("22: the second", x.worstAt(1) * 10 + x.worstAt(2), 10);
+        x.broken(0, 7);
+        Due.is("22: the first", x.worstAt(1) * 10 + x.worst(1), 7);
+        x.cut(2);
+        x.cut(1);
+        Due.is("22: moved up", x.worstAt(4) * 100 + x.worstAt(2), 655);
     }
 
     private static void cut() {
@@ -81,8 +87,12 @@ public final class BookTest {
         }
         x.broken(59, 1);
         Due.is("24: all", x.mend(1, 0), 60);
+        x.broken(0, 9);
+        Due.is("24: the first", x.mend(1, 8) * 10 + x.mend(1, 9), 10);
+        x.cut(1);
+        x.broken(57, 1);
         Due.is("24: plenty", x.mend(60, GREATEST), 0);
-        Due.is("24: changes nothing", x.worst(60), 7);
+        Due.is("24: changes nothing", x.worst(60), 8);
         int[][] bad = {{0, 1}, {61, 1}, {LEAST, 1}, {GREATEST, 1}, {1, -1}, {1, LEAST}};
         for (int[] b : bad) {
             Due.is("24: bad", x.mend(b[0], b[1]), -2);

@@ -99,6 +99,8 @@ public final class PullsTest {
         x.loads(0, 30, 10);
         x.ratio(400);
         Due.is("18: at 0, 1 and 131", x.slipAt(8), 1);
+        Due.is("18: no ticks, though at rest it slips", x.slipAt(0) * 10 + x.slips(0, 0), -9);
+        Due.is("19: no ticks, though at rest it slips", x.hold(0), 100);
         x.loads(60, 0, 10);
         // At 0: 61 * 8 and 101 * 12. At 2: 81 * 8 and 81 * 12. At 6: 121 * 12 and 41 * 8. At 8: 141 * 12, 21 * 8.
         x.ratio(248);

@@ -11,6 +11,7 @@ public final class RidingTest {
         begin();
         pass();
         brakes();
+        brakesSlowly();
         brakesAtTheEnds();
         state();
         Due.end();
@@ -132,6 +133,28 @@ public final class RidingTest {
         }
         toldInMirror();
         toldOutside();
+        marginAtFirst();
+    }
+
+    /** The margin at first is more than any speed can be too much. */
+    private static void marginAtFirst() {
+        ShaftWinder x = new ShaftWinder();
+        x.shaft(400, 20, 5);
+        x.zone(395, 400, 1);
+        x.stop(300, 1);
+        x.ring(1);
+        x.begin(0);
+        x.error(0, 1000);
+        x.pass(10);
+        Due.is("11: fast", x.state(1), 20);
+        x.error(1, 396 - x.state(0));
+        Due.is("11: told", x.state(5), 396);
+        Due.is("11: 19 too much", x.pass(1), 1);
+        Due.is("11: 19 too much", x.state(1), 20);
+        x.error(1, 396 - x.state(0));
+        x.guard(18, 10);
+        Due.is("11: 19 too much", x.pass(1), 2);
+        Due.is("11: 19 too much", x.state(1), 10);
     }
 
     private static void toldInMirror() {
@@ -191,7 +214,20 @@ public final class RidingTest {
         Due.is("12: not, bell as asked", x.begin(1), -4);
         Due.is("12: bad ahead of not", x.begin(2), -2);
         Due.is("12: left", x.state(7), 14);
+        oneTick();
         Due.is("12: bell stays", x.state(3), 4);
+    }
+
+    private static void oneTick() {
+        ShaftWinder x = setOut(100, 10, 2, 1);
+        Due.is("12: one tick", x.state(2) * 10 + x.state(7), 11);
+        Due.is("13: one tick", x.pass(1) * 10 + x.state(0), 1);
+        Due.is("13: ended", x.state(8), 1);
+        x.ring(8);
+        Due.is("12: and back", x.begin(1), 1);
+        x.pass(1);
+        is("13: and back", x, 0, 0, 0);
+        Due.is("13: ended", x.state(8), 2);
     }
 
     private static void pass() {
@@ -253,6 +289,29 @@ public final class RidingTest {
         Due.is("13: ahead of the first tick", x.pass(1), 0);
         is("13: ahead of the first tick", x, 41, 0, 0);
         Due.is("13: braked", x.state(9), 3);
+    }
+
+    /** With a change of 1 and a brake of 1 each speed is braked to the next one. */
+    private static void brakesSlowly() {
+        ShaftWinder x = setOut(100, 3, 1, 100);
+        x.guard(20, 1);
+        x.pass(5);
+        is("13: fast", x, 12, 3, 1);
+        x.link(0, false);
+        x.pass(1);
+        is("13: by 1", x, 14, 2, 2);
+        x.pass(1);
+        is("13: by 1", x, 15, 1, 2);
+        x.pass(1);
+        is("13: by 1", x, 15, 0, 0);
+        x.link(0, true);
+        x.ring(8);
+        x.begin(1);
+        x.pass(1);
+        is("13: up", x, 14, -1, 1);
+        x.link(0, false);
+        x.pass(1);
+        is("13: up", x, 14, 0, 0);
     }
 
     /** Braked late, it comes to the shaft's end: there it stands. */

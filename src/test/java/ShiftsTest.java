@@ -28,6 +28,11 @@ public final class ShiftsTest {
 
     private static void both(ShaftWinder x) {
         Due.is("26: one ride", x.both(1, 1, 0), 26);
+        ShaftWinder y = new ShaftWinder();
+        y.shaft(61, 10, 2);
+        Due.is("26: from 0 to D", y.both(1, 1, 0), 11);
+        y.shaft(10, 1, 1);
+        Due.is("26: from 0 to D", y.both(3, 1, 1), 34);
         Due.is("26: in and out", x.both(1, 1, 5), 36);
         Due.is("26: two rides", x.both(2, 1, 5), 67);
         Due.is("26: three rides", x.both(3, 1, 5), 98);
