@@ -8,10 +8,42 @@ final class Due {
     static void is(String call, long got, long want) {
         asked++;
         if (got != want) {
-            wrong++;
-            if (wrong <= 40) {
-                System.out.println(call + " answered " + got + ", due is " + want);
+            tell(call + " answered " + got + ", due is " + want);
+        }
+    }
+
+    static void isNot(String call, long got, long... never) {
+        asked++;
+        for (long n : never) {
+            if (got == n) {
+                tell(call + " answered " + got + ", which is not due");
             }
+        }
+    }
+
+    /** Of two texts of many lines, tells the first line in which they part. */
+    static void same(String call, String got, String want) {
+        asked++;
+        if (got.equals(want)) {
+            return;
+        }
+        String[] gotLines = got.split("\n");
+        String[] wantLines = want.split("\n");
+        int line = 0;
+        while (line < gotLines.length && line < wantLines.length && gotLines[line].equals(wantLines[line])) {
+            line++;
+        }
+        tell(call + ": " + at(gotLines, line) + ", due is " + at(wantLines, line));
+    }
+
+    private static String at(String[] lines, int line) {
+        return line < lines.length ? lines[line] : "nothing";
+    }
+
+    private static void tell(String what) {
+        wrong++;
+        if (wrong <= 40) {
+            System.out.println(what);
         }
     }
 

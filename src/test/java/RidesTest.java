@@ -8,7 +8,7 @@ public final class RidesTest {
         for (int run = 0; run < 500; run++) {
             rides(run, random);
         }
-        everyPairOfSmallShafts(random);
+        everyPlaceOfSmallShafts();
         Due.end();
     }
 
@@ -37,6 +37,7 @@ public final class RidesTest {
             Due.is("stop", x.stop(q, code), y.stop(q, code));
             Due.is("ring", x.ring(code), y.ring(code));
             Due.is("begin", x.begin(i), y.begin(i));
+            Due.is("digest of the whole ride", x.digest(), y.digest());
             Due.is("pass", x.pass(400), y.pass(400));
             Due.is("place", x.state(0), q);
             Due.is("digest", x.digest(), y.digest());
@@ -46,24 +47,28 @@ public final class RidesTest {
     private static void sameRide(String name, ShaftWinder x, PlainWinder y, int q) {
         List<Integer> speeds = y.ride(y.p, q);
         Due.is(name + "ticks", x.ticks(q), speeds.size());
-        for (int t = 1; t <= speeds.size(); t++) {
+        // No more of the longest rides, for the sake of the 512 calls of an object: a digest has all speeds.
+        for (int t = 1; t <= Math.min(speeds.size(), 60); t++) {
             Due.is(name + "speed " + t, x.speed(q, t), speeds.get(t - 1));
         }
         Due.is(name + "speed behind", x.speed(q, speeds.size() + 1), -1000);
     }
 
-    private static void everyPairOfSmallShafts(Random random) {
+    private static void everyPlaceOfSmallShafts() {
         for (int run = 0; run < 60; run++) {
-            ShaftWinder x = new ShaftWinder();
-            PlainWinder y = new PlainWinder();
-            lay(x, y, random, 30, "small " + run + ": ");
-            for (int place = 0; place <= y.d; place++) {
-                Due.is("most down", x.most(place, 1), y.most(place, 1));
-                Due.is("most up", x.most(place, -1), y.most(place, -1));
-                sameRide("small " + run + " to " + place + ": ", x, y, place);
-                Due.is("shift", x.shift(place, 7, 3, 1), y.shift(place, 7, 3, 1));
+            for (int place = 0; place <= 30; place++) {
+                ShaftWinder x = new ShaftWinder();
+                PlainWinder y = new PlainWinder();
+                String name = "small " + run + ", place " + place + ": ";
+                lay(x, y, new Random(run), 30, name);
+                Due.is(name + "most down", x.most(place, 1), y.most(place, 1));
+                Due.is(name + "most up", x.most(place, -1), y.most(place, -1));
+                if (place <= y.d) {
+                    sameRide(name, x, y, place);
+                }
+                Due.is(name + "shift", x.shift(place, 7, 3, 1), y.shift(place, 7, 3, 1));
+                Due.is(name + "both", x.both(9, 2, 3), y.both(9, 2, 3));
             }
-            Due.is("both", x.both(9, 2, 3), y.both(9, 2, 3));
         }
     }
 }
