@@ -278,6 +278,7 @@ public final class ShaftWinder {
     }
 
     public int mend(int w, int m) {
+        // No cut leaves less than none, so there is no such number of lays for an m below 0.
         if (!within(w, 1, LAYS) || m < 0) {
             return BAD;
         }

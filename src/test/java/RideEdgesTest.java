@@ -40,27 +40,6 @@ public final class RideEdgesTest {
 
     // ---- helpers
 
-    private static ShaftWinder at(int d, int v, int a, int p) {
-        ShaftWinder x = new ShaftWinder();
-        x.shaft(d, v, a);
-        if (p > 0) {
-            x.stop(p, 1);
-            x.ring(1);
-            x.begin(0);
-            x.pass(400);
-        }
-        return x;
-    }
-
-    private static ShaftWinder riding(int d, int v, int a, int q) {
-        ShaftWinder x = new ShaftWinder();
-        x.shaft(d, v, a);
-        x.stop(q, 1);
-        x.ring(1);
-        x.begin(0);
-        return x;
-    }
-
     private static int check(ShaftWinder x, int... speeds) {
         x.sheet(0, 2, speeds.length);
         for (int i = 0; i < speeds.length; i++) {
@@ -87,25 +66,25 @@ public final class RideEdgesTest {
     private static void cageZeroIsAtZeroToDeep() {
         int[] deeps = {10, 11, 100, 399, 400};
         for (int d : deeps) {
-            ShaftWinder x = at(d, 20, 5, 0);
+            ShaftWinder x = Made.at(d, 20, 5, 0);
             Due.is("P at first, " + d, x.state(0), 0);
             Due.is("as deep as D", x.ticks(d) > 0 ? 1 : 0, 1);
             Due.is("deeper than D", x.ticks(d + 1), -2);
             Due.is("above 0", x.ticks(-1), -2);
-            x = at(d, 20, 5, d);
+            x = Made.at(d, 20, 5, d);
             Due.is("P at the end, " + d, x.state(0), d);
-            Due.is("and back", x.ticks(0), at(d, 20, 5, 0).ticks(d));
+            Due.is("and back", x.ticks(0), Made.at(d, 20, 5, 0).ticks(d));
         }
     }
 
     private static void topSpeedIsAllowedAndNoMore() {
-        ShaftWinder x = at(400, 20, 5, 0);
+        ShaftWinder x = Made.at(400, 20, 5, 0);
         Due.is("TOP 20", check(x, 5, 10, 15, 20, 20), 5);
         Due.is("above TOP 20", check(x, 5, 10, 15, 20, 21), 4);
-        x = at(400, 20, 5, 400);
+        x = Made.at(400, 20, 5, 400);
         Due.is("TOP 20, up", check(x, -5, -10, -15, -20, -20), 5);
         Due.is("above TOP 20, up", check(x, -5, -10, -15, -20, -21), 4);
-        x = at(10, 1, 5, 5);
+        x = Made.at(10, 1, 5, 5);
         Due.is("TOP 1", check(x, 1, -1, 1), 1003);
         Due.is("above TOP 1", check(x, 1, 2), 1);
         Due.is("above TOP 1, up", check(x, -1, -2), 1);
@@ -113,7 +92,7 @@ public final class RideEdgesTest {
     }
 
     private static void speedsDifferByChangeAtMost() {
-        ShaftWinder x = at(100, 10, 2, 50);
+        ShaftWinder x = Made.at(100, 10, 2, 50);
         Due.is("more by A", check(x, 2, 4, 6), 3);
         Due.is("more by above A", check(x, 2, 5), 1);
         Due.is("less by A", check(x, 2, 4, 2), 1003);
@@ -123,10 +102,10 @@ public final class RideEdgesTest {
         Due.is("from up to down by A", check(x, -2, 0, 2), 1003);
         Due.is("from up to down by above A", check(x, -2, 1), 1);
         Due.is("from a speed to standing in one tick by above A", check(x, 2, 4, 0), 2);
-        x = at(100, 20, 5, 50);
+        x = Made.at(100, 20, 5, 50);
         Due.is("CHANGE 5", check(x, 5, 10), 2);
         Due.is("above CHANGE 5", check(x, 5, 11), 1);
-        x = at(100, 20, 1, 50);
+        x = Made.at(100, 20, 1, 50);
         Due.is("CHANGE 1", check(x, 1, 2), 2);
         Due.is("above CHANGE 1", check(x, 1, 3), 1);
     }
@@ -155,18 +134,18 @@ public final class RideEdgesTest {
         for (int[] u : up) {
             Due.is("most up from " + u[0], x.most(u[0], -1), u[1]);
         }
-        x = at(100, 10, 5, 35);
+        x = Made.at(100, 10, 5, 35);
         x.zone(40, 40, 4);
         Due.is("its last place is in a zone", check(x, 5), 0);
         Due.is("its last place is ahead of a zone", check(x, 4), 1001);
-        x = at(100, 10, 5, 40);
+        x = Made.at(100, 10, 5, 40);
         x.zone(40, 40, 4);
         Due.is("its first place is in a zone", check(x, 5), 0);
         Due.is("its first place is in a zone, up", check(x, -5), 0);
-        x = at(100, 10, 5, 41);
+        x = Made.at(100, 10, 5, 41);
         x.zone(40, 40, 4);
         Due.is("its first place is behind a zone", check(x, 5), 1001);
-        x = at(100, 10, 5, 38);
+        x = Made.at(100, 10, 5, 38);
         x.zone(40, 40, 4);
         Due.is("a place between is in a zone", check(x, 5), 0);
     }
@@ -193,25 +172,25 @@ public final class RideEdgesTest {
     }
 
     private static void speedOfZoneIsAllowedAndNoMore() {
-        ShaftWinder x = at(100, 10, 5, 0);
+        ShaftWinder x = Made.at(100, 10, 5, 0);
         x.zone(0, 100, 4);
         Due.is("the zone's speed", check(x, 4, 4), 1002);
         Due.is("above the zone's speed", check(x, 4, 5), 1);
-        x = at(100, 10, 5, 100);
+        x = Made.at(100, 10, 5, 100);
         x.zone(0, 100, 4);
         Due.is("the zone's speed, up", check(x, -4, -4), 1002);
         Due.is("above the zone's speed, up", check(x, -4, -5), 1);
-        x = at(100, 20, 5, 0);
+        x = Made.at(100, 20, 5, 0);
         x.zone(0, 100, 1);
         Due.is("speed 1", check(x, 1, 1), 1002);
         Due.is("above speed 1", check(x, 2), 0);
         Due.is("standing", check(x, 0, 0), 1002);
         Due.is("a ride at speed 1", x.ticks(100), 100);
-        x = at(100, 20, 5, 0);
+        x = Made.at(100, 20, 5, 0);
         x.zone(0, 100, 20);
         Due.is("speed 20", check(x, 5, 10, 15, 20), 4);
-        Due.is("TOP holds below a zone's speed", at(100, 19, 5, 0).most(0, 1), 19);
-        x = at(100, 19, 5, 0);
+        Due.is("TOP holds below a zone's speed", Made.at(100, 19, 5, 0).most(0, 1), 19);
+        x = Made.at(100, 19, 5, 0);
         x.zone(0, 100, 20);
         Due.is("TOP holds in a faster zone", x.most(0, 1), 19);
     }
@@ -230,13 +209,13 @@ public final class RideEdgesTest {
     }
 
     private static void allPlacesAreZeroToDeep() {
-        ShaftWinder x = at(10, 10, 5, 0);
+        ShaftWinder x = Made.at(10, 10, 5, 0);
         Due.is("up to D", check(x, 5, 5), 1002);
         Due.is("beyond D", check(x, 5, 6), 1);
         Due.is("beyond D, slowly", check(x, 5, 5, 1), 2);
         Due.is("standing at D", check(x, 5, 5, 0), 1003);
         Due.is("beyond 0", check(x, -1), 0);
-        x = at(10, 10, 5, 10);
+        x = Made.at(10, 10, 5, 10);
         Due.is("up to 0", check(x, -5, -5), 1002);
         Due.is("beyond 0", check(x, -5, -6), 1);
         Due.is("beyond 0, slowly", check(x, -5, -5, -1), 2);
@@ -247,7 +226,7 @@ public final class RideEdgesTest {
     }
 
     private static void firstAndLastSpeedAreChangeAtMost() {
-        ShaftWinder x = at(100, 10, 3, 50);
+        ShaftWinder x = Made.at(100, 10, 3, 50);
         Due.is("first A", check(x, 3), 1001);
         Due.is("first above A", check(x, 4), 0);
         Due.is("first A, up", check(x, -3), 1001);
@@ -276,7 +255,7 @@ public final class RideEdgesTest {
         speeds("2 3 2, not 1 3 3", x, 7, 2, 3, 2);
         speeds("2 4 2 1", x, 9, 2, 4, 2, 1);
         speeds("2 4 3 1, not 2 3 3 2", x, 10, 2, 4, 3, 1);
-        x = at(100, 10, 2, 100);
+        x = Made.at(100, 10, 2, 100);
         speeds("up: -2 -3 -1, not -2 -2 -2", x, 94, -2, -3, -1);
         speeds("up: -2 -4 -3 -1, not -2 -3 -3 -2", x, 90, -2, -4, -3, -1);
         x = new ShaftWinder();
@@ -287,7 +266,7 @@ public final class RideEdgesTest {
     private static void toPlaceItselfNoTicks() {
         int[] places = {0, 37, 100};
         for (int p : places) {
-            ShaftWinder x = at(100, 10, 2, p);
+            ShaftWinder x = Made.at(100, 10, 2, p);
             x.ratio(100);
             x.sheet(1, 0, 2);
             Due.is("ticks", x.ticks(p), 0);
@@ -311,7 +290,7 @@ public final class RideEdgesTest {
     private static void greatestSpeedIsZeroToTop() {
         int[] tops = {1, 2, 19, 20};
         for (int v : tops) {
-            ShaftWinder x = at(40, v, 1, 0);
+            ShaftWinder x = Made.at(40, v, 1, 0);
             Due.is("V", x.most(20, 1) * 100 + x.most(20, -1), v * 101);
             Due.is("V, just up to D", x.most(40 - v, 1), v);
             Due.is("one less", x.most(40 - v + 1, 1), v - 1);
@@ -320,7 +299,7 @@ public final class RideEdgesTest {
             Due.is("none at D", x.most(40, 1), 0);
             Due.is("none at 0", x.most(0, -1), 0);
         }
-        Due.is("whatever CHANGE is", at(40, 20, 1, 0).most(0, 1), 20);
+        Due.is("whatever CHANGE is", Made.at(40, 20, 1, 0).most(0, 1), 20);
     }
 
     private static void noSuchTick() {
@@ -330,27 +309,27 @@ public final class RideEdgesTest {
         Due.is("behind the last", x.speed(18, 6), -1000);
         Due.is("tick 0", x.speed(18, 0), -1000);
         Due.is("tick -1", x.speed(18, -1), -1000);
-        x = at(400, 1, 1, 0);
+        x = Made.at(400, 1, 1, 0);
         Due.is("tick 400", x.speed(400, 400), 1);
         Due.is("tick 401", x.speed(400, 401), -1000);
     }
 
     private static void shaftTakesZonesAndStopsAway() {
-        ShaftWinder x = at(100, 10, 2, 70);
+        ShaftWinder x = Made.at(100, 10, 2, 70);
         x.zone(0, 100, 1);
         Due.is("as it was, too", x.shaft(100, 10, 2), 1);
         Due.is("no zones, no stops, P 0", x.state(10) * 10000 + x.state(11) * 1000 + x.state(0), 0);
         Due.is("no zones", x.most(0, 1), 10);
         x.ring(1);
         Due.is("no stops", x.begin(0), -2);
-        Due.is("shallower than P was", at(400, 20, 5, 400).shaft(10, 1, 1), 1);
+        Due.is("shallower than P was", Made.at(400, 20, 5, 400).shaft(10, 1, 1), 1);
     }
 
     /** Asked ahead of a change of the laws and behind it, to the same place. */
     private static void ridesByTheLawsAsTheyAre() {
         int[] ends = {0, 1, 2, 99, 100};
         for (int q : ends) {
-            ShaftWinder x = at(100, 10, 2, 50);
+            ShaftWinder x = Made.at(100, 10, 2, 50);
             Due.is("ahead of a zone, to " + q, x.ticks(q), 9);
             x.zone(0, 100, 1);
             Due.is("behind a zone, to " + q, x.ticks(q), Math.abs(q - 50));
@@ -363,7 +342,7 @@ public final class RideEdgesTest {
 
     /** A shift's ride comes from 0, the one that is asked next from the other side. */
     private static void ridesToOnePlaceFromBothSides() {
-        ShaftWinder x = at(100, 10, 2, 100);
+        ShaftWinder x = Made.at(100, 10, 2, 100);
         x.zone(20, 28, 2);
         Due.is("from 0", x.shift(30, 1, 1, 0), 11);
         // 5 ticks to 81, 5 by 2 to 71, then 4 6 8 .. to 30, which 7 more do not reach.
@@ -444,7 +423,7 @@ public final class RideEdgesTest {
             {1000, 1000, -1000, 1000}, {-1000, 1000, -1000, -1000}, {1000, 1000, 1000, 1000}};
         int[] places = {0, 60, 100};
         for (int p : places) {
-            ShaftWinder x = at(100, 10, 2, p);
+            ShaftWinder x = Made.at(100, 10, 2, p);
             Due.is("no error at first", x.state(5), p);
             for (int[] e : errors) {
                 for (int sender = 0; sender < 3; sender++) {
@@ -456,7 +435,7 @@ public final class RideEdgesTest {
     }
 
     private static void atRestOnlyTheCountChanges() {
-        ShaftWinder x = at(100, 10, 2, 40);
+        ShaftWinder x = Made.at(100, 10, 2, 40);
         x.zone(0, 100, 1);
         x.ring(3);
         x.link(2, false);
@@ -474,7 +453,7 @@ public final class RideEdgesTest {
 
     /** On the way at speeds 1 to 20 in ticks 1 to 20 a zone of speed w is told: the tick in which it brakes. */
     private static int tickInWhichItBrakes(int w, int margin, int way) {
-        ShaftWinder x = at(400, 20, 1, way > 0 ? 0 : 400);
+        ShaftWinder x = Made.at(400, 20, 1, way > 0 ? 0 : 400);
         x.zone(0, 0, w);
         int stop = x.stop(way > 0 ? 400 : 0, 2);
         x.ring(2);
@@ -501,7 +480,7 @@ public final class RideEdgesTest {
 
     /** At 22, the next speed -8, with MARGIN 0: whether it brakes as such a place is told. */
     private static boolean brakesAsTold(int told, int... slower) {
-        ShaftWinder x = riding(100, 10, 2, 34);
+        ShaftWinder x = Made.riding(100, 10, 2, 34);
         x.pass(400);
         x.zone(60, 62, 7);
         for (int w : slower) {
@@ -538,14 +517,14 @@ public final class RideEdgesTest {
     private static void brakeNotBeyondZero() {
         int[][] due = {{1, 7}, {2, 6}, {3, 5}, {7, 1}, {8, 0}, {9, 0}, {10, 0}};
         for (int[] d : due) {
-            ShaftWinder x = riding(100, 8, 4, 100);
+            ShaftWinder x = Made.riding(100, 8, 4, 100);
             x.pass(4);
             x.guard(0, d[0]);
             is("at its top", x, 28, 8, 1);
             x.link(0, false);
             x.pass(1);
             is("down, brake " + d[0], x, 28 + d[1], d[1], d[1] > 0 ? 2 : 0);
-            x = at(100, 8, 4, 100);
+            x = Made.at(100, 8, 4, 100);
             x.stop(0, 2);
             x.ring(2);
             x.begin(1);
@@ -555,7 +534,7 @@ public final class RideEdgesTest {
             x.pass(1);
             is("up, brake " + d[0], x, 72 - d[1], -d[1], d[1] > 0 ? 2 : 0);
         }
-        ShaftWinder x = riding(100, 8, 4, 100);
+        ShaftWinder x = Made.riding(100, 8, 4, 100);
         x.pass(2);
         x.link(0, false);
         x.pass(1);
@@ -569,9 +548,9 @@ public final class RideEdgesTest {
     private static void placeNotBeyondTheEnds() {
         int[][] due = {{95, 94, 9, 2}, {94, 94, 9, 2}, {93, 93, 0, 0}, {90, 90, 0, 0}};
         for (int[] d : due) {
-            ShaftWinder down = riding(d[0], 10, 5, d[0]);
+            ShaftWinder down = Made.riding(d[0], 10, 5, d[0]);
             brakeLate("down, D " + d[0], down, d[0], 1, d);
-            ShaftWinder up = at(d[0], 10, 5, d[0]);
+            ShaftWinder up = Made.at(d[0], 10, 5, d[0]);
             up.stop(0, 2);
             up.ring(2);
             up.begin(1);
@@ -591,7 +570,7 @@ public final class RideEdgesTest {
     }
 
     private static void brakedRideIsOver() {
-        ShaftWinder x = riding(100, 10, 2, 100);
+        ShaftWinder x = Made.riding(100, 10, 2, 100);
         x.pass(5);
         x.link(0, false);
         x.pass(1);
@@ -611,29 +590,29 @@ public final class RideEdgesTest {
     }
 
     private static void restsBehindItsLastTick() {
-        ShaftWinder x = riding(100, 10, 2, 18);
+        ShaftWinder x = Made.riding(100, 10, 2, 18);
         Due.is("one ahead", x.pass(4), 1);
         is("one ahead", x, 16, 4, 1);
         Due.is("one left", x.state(7), 1);
         Due.is("the last", x.pass(1), 0);
         is("the last", x, 18, 0, 0);
         Due.is("ended", x.state(8) * 10 + x.state(7), 10);
-        x = riding(100, 10, 2, 18);
+        x = Made.riding(100, 10, 2, 18);
         Due.is("more ticks than it has", x.pass(400), 0);
         is("more ticks than it has", x, 18, 0, 0);
         Due.is("all ticks are counted", x.state(6), 400);
         Due.is("ended once", x.state(8), 1);
-        x = riding(400, 1, 1, 400);
+        x = Made.riding(400, 1, 1, 400);
         Due.is("the longest ride, one left", x.pass(399) * 10 + x.state(7), 11);
         Due.is("the longest ride", x.pass(1) * 1000 + x.state(0), 400);
-        x = riding(400, 1, 1, 400);
+        x = Made.riding(400, 1, 1, 400);
         Due.is("the longest ride in one call", x.pass(400) * 1000 + x.state(0), 400);
     }
 
     // ---- part 3
 
     private static void greaterPullUpToRatio() {
-        ShaftWinder x = at(400, 20, 5, 0);
+        ShaftWinder x = Made.at(400, 20, 5, 0);
         x.loads(1000, 1000, 10);
         // At 0 it is 1001 to 5001 at rest, at 400 the other way round: 499.6 hundredths.
         Due.is("beyond 400 hundredths at both ends", x.slips(0, 0) * 10 + x.slips(400, 0), 11);
@@ -668,7 +647,7 @@ public final class RideEdgesTest {
         Due.is("as it begins", x.slipAt(2) * 100 + x.slipAt(4) * 10 + x.slipAt(8), 111);
         x.ratio(180);
         Due.is("it holds", x.slipAt(2) + x.slipAt(4) + x.slipAt(8), -3);
-        x = at(400, 1, 1, 0);
+        x = Made.at(400, 1, 1, 0);
         x.ratio(122);
         Due.is("the longest, at first", x.slipAt(400), 1);
         x.loads(110, 100, 0);
@@ -692,7 +671,7 @@ public final class RideEdgesTest {
                 Due.isNot(name + ", it slips", x.slipAt(4), -1);
             }
         }
-        ShaftWinder x = at(10, 1, 1, 0);
+        ShaftWinder x = Made.at(10, 1, 1, 0);
         x.loads(9, 10, 0);
         // Up to 11 * 11 to 10 * 9 as it begins: 134.4 hundredths.
         Due.is("whatever the ratio is", x.hold(10) * 1000 + x.ratio(100), 135400);

@@ -39,15 +39,6 @@ public final class RowEdgesTest {
 
     // ---- helpers
 
-    private static ShaftWinder riding(int d, int v, int a, int q) {
-        ShaftWinder x = new ShaftWinder();
-        x.shaft(d, v, a);
-        x.stop(q, 1);
-        x.ring(1);
-        x.begin(0);
-        return x;
-    }
-
     private static void lay(String name, ShaftWinder x, int form, int... items) {
         Due.is(name + ", sheet", x.sheet(0, form, items.length), items.length);
         for (int i = 0; i < items.length; i++) {
@@ -189,7 +180,7 @@ public final class RowEdgesTest {
     private static void logHasTheLatestForty() {
         int[] ticks = {1, 39, 40, 41, 79, 80, 81, 120, 399};
         for (int n : ticks) {
-            ShaftWinder x = riding(400, 1, 1, 400);
+            ShaftWinder x = Made.riding(400, 1, 1, 400);
             Due.is("none yet", x.log(0, 0), -2000);
             x.pass(n);
             int kept = Math.min(n, 40);
@@ -207,7 +198,7 @@ public final class RowEdgesTest {
     }
 
     private static void speedIsZeroBehindTheLastTick() {
-        ShaftWinder x = riding(100, 10, 2, 18);
+        ShaftWinder x = Made.riding(100, 10, 2, 18);
         x.pass(6);
         int[][] due = {{18, 0, 0}, {18, 0, 0}, {16, 4, 1}, {12, 6, 1}, {6, 4, 1}, {2, 2, 1}};
         for (int i = 0; i < due.length; i++) {
@@ -357,7 +348,7 @@ public final class RowEdgesTest {
         int[][] due = {{0, 60, 0}, {5, 0, 0}, {5, 4, 4}, {5, 5, 5}, {5, 6, 5}, {39, 60, 39}, {40, 60, 40}, {41, 60, 40},
             {200, 60, 40}, {200, 40, 40}, {200, 39, 39}, {200, 41, 40}, {200, 1, 1}, {200, 0, 0}};
         for (int[] d : due) {
-            ShaftWinder x = riding(400, 1, 1, 400);
+            ShaftWinder x = Made.riding(400, 1, 1, 400);
             if (d[0] > 0) {
                 x.pass(d[0]);
             }
@@ -374,7 +365,7 @@ public final class RowEdgesTest {
     }
 
     private static void writeKeepsTheLowestBits() {
-        ShaftWinder x = riding(400, 20, 5, 400);
+        ShaftWinder x = Made.riding(400, 20, 5, 400);
         x.pass(30);
         x.sheet(0, BYTES, 1);
         x.sheet(1, SHORTS, 1);
@@ -385,7 +376,7 @@ public final class RowEdgesTest {
         int[] places = {127, 128, 255, 256};
         int[] due = {127, -128, -1, 0};
         for (int n = 0; n < places.length; n++) {
-            x = riding(400, 1, 1, places[n]);
+            x = Made.riding(400, 1, 1, places[n]);
             x.pass(400);
             x.sheet(0, BYTES, 60);
             Due.is("forty", x.write(0, 0), 40);
@@ -498,7 +489,7 @@ public final class RowEdgesTest {
     }
 
     private static void digestOfTheRideThatIsLeft() {
-        ShaftWinder x = riding(400, 1, 1, 400);
+        ShaftWinder x = Made.riding(400, 1, 1, 400);
         BigInteger h = fold(fold(BigInteger.valueOf(17), 0, 0, 1, 0, 0, 0, 0, 400, 0, 0, 0, 1), new long[60]);
         for (int tick = 0; tick < 400; tick++) {
             h = fold(h, 1);
